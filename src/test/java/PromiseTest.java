@@ -202,6 +202,14 @@ public final class PromiseTest {
         nothingChanged(y, before, 1);
     }
 
+    /** Each hedge has to be lower by 1 at least than the next one; from either end on. */
+    private static void longRow(HedgeTreaties x, boolean upwards) {
+        for (int step = 0; step < 7; step++) {
+            int first = upwards ? step : 6 - step;
+            x.sign(first, first + 1, -1);
+        }
+    }
+
     private static void plans() {
         HedgeTreaties x = start(6);
         due("nothing to clip", x.plan(), 10);
@@ -236,6 +244,13 @@ public final class PromiseTest {
         x.height(0, 50);
         x.freeze(0, 1);
         due("a frozen treaty does not count", x.plan(), 10);
+        HedgeTreaties y = new HedgeTreaties();
+        y.sign(0, 1, -1);
+        due("by 1", y.plan(), 11);
+        due("by 1", y.hedge(0, 0), 9);
+        longRow(y, true);
+        due("along the longest row", y.plan(), 37);
+        due("the lowest", y.hedge(0, 0), 3);
     }
 
     private static void days() {
@@ -329,6 +344,7 @@ public final class PromiseTest {
         due("no such treaty", x.cancel(-1), -1);
         due("no such treaty", x.cancel(MOST_INT), -1);
         nothingChanged(x, before, 4);
+        x.freeze(0, 9);
         due("all", x.cancel(0), 0);
         due("none left", x.cancel(0), -1);
         due("a new one is not frozen", x.sign(4, 5, 3), 10);
@@ -377,6 +393,11 @@ public final class PromiseTest {
         due("refused ones are states", x.count(12), 4);
         x.day();
         due("thawed by itself", x.thaw(0), 5);
+        HedgeTreaties y = new HedgeTreaties();
+        y.sign(0, 1, 2);
+        y.freeze(0, 3);
+        due("some cakes", y.thaw(0), 17);
+        due("cakes left", y.count(6), 7);
         String before = looks(x);
         due("no such treaty", x.thaw(1), -1);
         due("no such treaty", x.thaw(-1), -1);
@@ -455,6 +476,7 @@ public final class PromiseTest {
         due("no change", x.count(12), 0);
         write(x, "0<1+60;2<3-30;4<5;6<7+7");
         due("all", x.signAll(), 4);
+        due("no stop", x.why(0), -4);
         due("the pad is empty", x.count(11), 0);
         due("one change", x.count(12), 1);
         due("d", x.treaty(0, 2), 160);
@@ -478,6 +500,11 @@ public final class PromiseTest {
         due("undo", x.undo(), 3);
         due("all of them are undone", x.count(1), 5);
         due("the pad stays empty", x.count(11), 0);
+        write(x, "0<7+5");
+        x.signAll();
+        write(x, "7<1");
+        due("without d", x.signAll(), 1);
+        due("d of before is forgotten", x.treaty(x.count(1) - 1, 2), 100);
         signsAllUpTo14();
     }
 
@@ -530,6 +557,18 @@ public final class PromiseTest {
         due("all were signed", x.why(2), -4);
     }
 
+    /** Of the two treaties, the one is broken today alone, the other one from tomorrow on. */
+    private static HedgeTreaties onTheEdge() {
+        HedgeTreaties x = new HedgeTreaties();
+        x.sign(0, 1, 0);
+        x.sign(2, 3, 0);
+        x.sign(4, 5, 0);
+        x.height(0, 11);
+        x.growth(1, 3);
+        x.growth(2, 3);
+        return x;
+    }
+
     private static void hedges() {
         HedgeTreaties x = start(17);
         x.sign(0, 1, -3);
@@ -553,6 +592,8 @@ public final class PromiseTest {
         x.thaw(0);
         due("no least clipping", x.hedge(0, 4), -4);
         due("nor of another", x.hedge(7, 4), -4);
+        due("broken today", onTheEdge().hedge(0, 5), 1);
+        due("broken tomorrow", onTheEdge().hedge(2, 5), 0);
         for (int hedge : NO_HEDGES) {
             due("no hedge", x.hedge(hedge, 0), -1);
         }
@@ -589,6 +630,13 @@ public final class PromiseTest {
         x.height(0, 30);
         due("exactly as high as it may be", x.treaty(2, 4), 0);
         due("no higher", x.treaty(2, 5), 1000);
+        HedgeTreaties y = onTheEdge();
+        due("broken today", y.treaty(0, 4), 1);
+        due("has to be lower today", y.treaty(0, 5), 999);
+        due("broken tomorrow", y.treaty(1, 4), 0);
+        due("could be higher today", y.treaty(1, 5), 1000);
+        due("freezing what will be broken", y.freeze(1, 2), 10);
+        due("freezing what is broken", y.freeze(0, 2), 11);
         due("too small", x.treaty(0, -1), -1);
         due("too great", x.treaty(0, 8), -1);
         due("no such treaty", x.treaty(4, 0), -1);
@@ -624,6 +672,37 @@ public final class PromiseTest {
         }
         due("no such way", x.bound(0, 1, -1), -1);
         due("no such way", x.bound(0, 1, 2), -1);
+        for (int way = 0; way <= 1; way++) {
+            boundsAlongRows(way);
+            boundsAmong14(way);
+        }
+    }
+
+    private static void boundsAlongRows(int way) {
+        HedgeTreaties x = new HedgeTreaties();
+        longRow(x, true);
+        due("along the longest row", x.bound(0, 7, way), 993);
+        HedgeTreaties y = new HedgeTreaties();
+        longRow(y, false);
+        due("along the longest row, from its end", y.bound(0, 7, way), 993);
+        due("along a part of it", y.bound(2, 5, way), 997);
+        due("no way back", y.bound(7, 0, way), -4);
+        due("no way back", y.bound(1, 0, way), -4);
+        y.sign(7, 0, 30);
+        due("a way back", y.bound(1, 0, way), 1024);
+        y.cancel(7);
+        due("no way back any more", y.bound(1, 0, way), -4);
+        due("no way back any more", y.bound(7, 0, way), -4);
+    }
+
+    private static void boundsAmong14(int way) {
+        HedgeTreaties x = new HedgeTreaties();
+        for (int d = 60; d > 46; d--) {
+            x.sign(6, 7, d);
+        }
+        due("the least of 14", x.bound(6, 7, way), 1047);
+        x.freeze(13, 1);
+        due("the least but one", x.bound(6, 7, way), 1048);
     }
 
     private static void whyNots() {
@@ -644,11 +723,18 @@ public final class PromiseTest {
         due("the same hedge", x.whyNot(3, 3, 5), -1);
         due("d too small", x.whyNot(0, 1, -31), -1);
         due("d too great", x.whyNot(0, 1, 61), -1);
-        for (int d = 4; x.count(1) < 14; d--) {
+        for (int d = 4; d > -9; d--) {
             x.sign(0, 1, d);
         }
+        due("treaties", x.count(1), 14);
         due("with 14 treaties there is no error", x.whyNot(6, 7, 0), 0);
         due("with 14 treaties", x.whyNot(0, 1, 60), 2);
+        HedgeTreaties row = new HedgeTreaties();
+        longRow(row, true);
+        due("possible against the longest row", row.whyNot(7, 0, 7), 0);
+        due("not possible against the longest row", row.whyNot(7, 0, 6), 1);
+        due("known by the longest row", row.whyNot(0, 7, -7), 2);
+        due("more than the longest row", row.whyNot(0, 7, -8), 0);
         HedgeTreaties y = new HedgeTreaties();
         y.sign(0, 1, -30);
         y.sign(1, 2, -30);
@@ -684,6 +770,20 @@ public final class PromiseTest {
         }
         due("no such way", x.clipping(-1), -1);
         due("no such way", x.clipping(2), -1);
+        for (int way = 0; way <= 1; way++) {
+            HedgeTreaties y = new HedgeTreaties();
+            y.sign(7, 0, -1);
+            due("the first call", y.clipping(way), 1);
+            y.sign(1, 0, -2);
+            due("of the next state", y.clipping(way), 3);
+            HedgeTreaties z = new HedgeTreaties();
+            longRow(z, true);
+            due("along the longest row", z.clipping(way), 28);
+            z.height(7, 7);
+            due("down to 0", z.clipping(way), 49);
+            z.height(7, 6);
+            due("below 0", z.clipping(way), -4);
+        }
     }
 
     private static void counts() {
@@ -710,6 +810,14 @@ public final class PromiseTest {
         x.plan();
         due("clips", x.count(9), 2);
         due("clipped off", x.count(10), 13);
+        HedgeTreaties y = onTheEdge();
+        y.growth(2, 1);
+        due("broken today", y.count(3), 1);
+        due("broken tomorrow", y.ifDays(1, 0), 0);
+        y.nest(0, 1);
+        due("birds in the first hedge", y.count(5), 1);
+        y.nest(7, 1);
+        due("birds in the last hedge", y.count(5), 2);
         x.undo();
         due("undone clips", x.count(9), 1);
         due("undone clipped off", x.count(10), 4);
@@ -732,6 +840,9 @@ public final class PromiseTest {
         CHECKS.due("promise 23: none of one", x.peace(), 0.0);
         x.freeze(1, 2);
         CHECKS.due("promise 23: none in force", x.peace(), 1.0);
+        HedgeTreaties y = onTheEdge();
+        y.growth(2, 1);
+        CHECKS.due("promise 23: today, not tomorrow", y.peace(), 2.0 / 3.0);
     }
 
     private static void ifDays() {
@@ -783,6 +894,9 @@ public final class PromiseTest {
         due("no change", x.count(12), 4);
         HedgeTreaties y = new HedgeTreaties();
         y.sign(0, 1, 3);
+        y.growth(1, 5);
+        due("yesterday does not count", y.breaksIn(), -4);
+        y.growth(1, 1);
         y.growth(0, 2);
         due("only for some days", y.breaksIn(), 4);
         y.height(0, 99);
@@ -819,24 +933,44 @@ public final class PromiseTest {
     private static void undoes() {
         HedgeTreaties x = start(27);
         due("none", x.undo(), -2);
-        String[] before = new String[7];
-        for (int call = 0; call < 7; call++) {
-            before[call] = looks(x);
-            change(x, call);
+        for (int call = 0; call < 16; call++) {
+            undoesDownTo(call);
         }
+        changes(x, 0, 7);
         due("at most 4 states", x.count(12), 4);
         x.append('x');
         x.save();
-        for (int call = 6; call > 2; call--) {
-            due("undo", x.undo(), call - 3);
-            CHECKS.due("promise 27: as before call " + call, looks(x), before[call]);
+        for (int states = 3; states >= 0; states--) {
+            due("undo", x.undo(), states);
         }
         due("no more", x.undo(), -2);
-        CHECKS.due("promise 27: nothing changed", looks(x), before[3]);
         due("the pad stays", x.count(11), 1);
+        due("the day", x.count(0), 0);
         x.restore();
         due("the snapshot stays", x.count(0), 1);
-        undoesOfTheOthers();
+    }
+
+    /** Behind undo() a street looks as another one on which the later calls never were. */
+    private static void undoesDownTo(int call) {
+        HedgeTreaties other = new HedgeTreaties();
+        other.save();
+        changes(other, 0, call);
+        String due = looks(other);
+        for (int times = 1; times <= 4 && call + times <= 16; times++) {
+            HedgeTreaties x = new HedgeTreaties();
+            x.save();
+            changes(x, 0, call + times);
+            for (int time = 1; time <= times; time++) {
+                due("undo", x.undo(), Math.min(call + times, 4) - time);
+            }
+            CHECKS.due("promise 27: as before call " + call, looks(x), due);
+        }
+    }
+
+    private static void changes(HedgeTreaties x, int from, int to) {
+        for (int call = from; call < to; call++) {
+            change(x, call);
+        }
     }
 
     private static void change(HedgeTreaties x, int call) {
@@ -853,22 +987,10 @@ public final class PromiseTest {
             case 9: x.cancel(0); break;
             case 10: x.sign(0, 2, -2); break;
             case 11: write(x, "3<4-2;4<3"); x.signAll(); break;
-            case 12: x.restore(); break;
+            case 12: x.growth(4, 5); break;
+            case 13: x.height(4, 50); break;
+            case 14: x.restore(); break;
             default: x.clip(3, 1); break;
-        }
-    }
-
-    private static void undoesOfTheOthers() {
-        HedgeTreaties x = new HedgeTreaties();
-        x.save();
-        x.sign(0, 2, 5);
-        for (int call = 7; call < 14; call++) {
-            String before = looks(x);
-            int states = Math.min(x.count(12), 3);
-            change(x, call);
-            due("undo of " + call, x.undo(), states);
-            CHECKS.due("promise 27: as before call " + call, looks(x), before);
-            change(x, call);
         }
     }
 
@@ -893,25 +1015,23 @@ public final class PromiseTest {
         HedgeTreaties x = start(29);
         due("none", x.restore(), -2);
         due("an error is no change", x.count(12), 0);
-        for (int call = 0; call < 9; call++) {
-            change(x, call);
-        }
-        String saved = looks(x);
+        changes(x, 0, 9);
+        HedgeTreaties other = new HedgeTreaties();
+        changes(other, 0, 9);
+        String saved = looks(other);
         x.save();
-        for (int call = 0; call < 3; call++) {
-            x.day();
-            x.cancel(0);
-            x.sign(5, 6, 1);
-            x.sign(5, 6, 1);
-            x.append('0');
-            String before = looks(x);
-            due("restore", x.restore(), 1);
-            CHECKS.due("promise 29: as saved", looks(x), saved);
-            due("the pad stays", x.count(11), call + 1);
-            due("a change", x.count(12), 4);
-            due("undo of restore", x.undo(), 3);
-            CHECKS.due("promise 29: as before", looks(x), before);
-            x.restore();
-        }
+        x.append('0');
+        changes(x, 6, 12);
+        x.append('1');
+        String before = looks(x);
+        due("restore", x.restore(), 1);
+        CHECKS.due("promise 29: as saved", looks(x), saved);
+        due("the pad stays", x.count(11), 1);
+        due("a change", x.count(12), 4);
+        due("undo of restore", x.undo(), 3);
+        CHECKS.due("promise 29: as before", looks(x), before);
+        due("the snapshot stays", x.restore(), 1);
+        due("once more", x.restore(), 1);
+        due("as saved", x.count(0), 1);
     }
 }
