@@ -894,6 +894,7 @@ public final class PromiseTest {
         due("no change", x.count(12), 4);
         HedgeTreaties y = new HedgeTreaties();
         y.sign(0, 1, 3);
+        y.day();
         y.growth(1, 5);
         due("yesterday does not count", y.breaksIn(), -4);
         y.growth(1, 1);
@@ -976,7 +977,7 @@ public final class PromiseTest {
     private static void change(HedgeTreaties x, int call) {
         switch (call) {
             case 0: x.height(0, 30); break;
-            case 1: x.growth(1, 3); break;
+            case 1: x.sign(6, 4, 3); break;
             case 2: x.sign(0, 2, 5); break;
             case 3: x.plan(); break;
             case 4: x.freeze(0, 5); break;
@@ -1024,14 +1025,14 @@ public final class PromiseTest {
         changes(x, 6, 12);
         x.append('1');
         String before = looks(x);
-        due("restore", x.restore(), 1);
+        due("restore", x.restore(), 2);
         CHECKS.due("promise 29: as saved", looks(x), saved);
         due("the pad stays", x.count(11), 1);
         due("a change", x.count(12), 4);
         due("undo of restore", x.undo(), 3);
         CHECKS.due("promise 29: as before", looks(x), before);
-        due("the snapshot stays", x.restore(), 1);
-        due("once more", x.restore(), 1);
+        due("the snapshot stays", x.restore(), 2);
+        due("once more", x.restore(), 2);
         due("as saved", x.count(0), 1);
     }
 }
