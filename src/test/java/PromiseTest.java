@@ -2,7 +2,7 @@
 public final class PromiseTest {
     private static final int LEAST_INT = Integer.MIN_VALUE;
     private static final int MOST_INT = Integer.MAX_VALUE;
-    private static final int[] NO_HEDGES = {-1, 8, LEAST_INT, MOST_INT};
+    private static final int[] NO_HEDGES = Sentences.NO_HEDGES;
 
     private static final Checks CHECKS = new Checks();
     private static int promise;
@@ -50,29 +50,11 @@ public final class PromiseTest {
     }
 
     private static void write(HedgeTreaties x, String text) {
-        x.clear();
-        for (int i = 0; i < text.length(); i++) {
-            x.append(text.charAt(i));
-        }
+        Sentences.write(x, text);
     }
 
-    /** All that the looks tell, but for the history and the pad. */
     private static String looks(HedgeTreaties x) {
-        StringBuilder text = new StringBuilder();
-        for (int what = 0; what <= 10; what++) {
-            text.append(x.count(what)).append(' ');
-        }
-        for (int hedge = 0; hedge < 8; hedge++) {
-            for (int what = 0; what <= 7; what++) {
-                text.append(x.hedge(hedge, what)).append(' ');
-            }
-        }
-        for (int treaty = 0; treaty < x.count(1); treaty++) {
-            for (int what = 0; what <= 7; what++) {
-                text.append(x.treaty(treaty, what)).append(' ');
-            }
-        }
-        return text.toString();
+        return Looks.street(x);
     }
 
     /** What returns an error changes nothing, and is not in the history. */
