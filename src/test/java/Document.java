@@ -29,6 +29,17 @@ final class Document {
         return terms;
     }
 
+    /** The constants, the constructor and the methods, as the document writes them. */
+    static List<String> face() {
+        List<String> face = new ArrayList<>();
+        for (String line : part("## The public face", "## Terms")) {
+            if (line.startsWith("public ") && line.endsWith(";")) {
+                face.add(line);
+            }
+        }
+        return face;
+    }
+
     /** Of the promises: what each one does, and the pieces of its rows, with its number ahead. */
     static List<String> promises() {
         List<String> rows = new ArrayList<>();

@@ -1,7 +1,10 @@
+import java.io.IOException;
 import java.lang.reflect.Constructor;
 import java.lang.reflect.Field;
 import java.lang.reflect.Method;
 import java.lang.reflect.Modifier;
+import java.nio.file.Files;
+import java.nio.file.Path;
 import java.util.Set;
 import java.util.TreeSet;
 
@@ -19,12 +22,22 @@ public final class FaceTest {
 
     private static final Checks CHECKS = new Checks();
 
-    public static void main(String[] args) {
+    public static void main(String[] args) throws IOException {
+        checkWords();
         checkClass();
         checkConstants();
         checkMethods();
         checkInnerClasses();
         CHECKS.end("FaceTest");
+    }
+
+    /** Each line of the document's face stands in the file, with the same names of arguments. */
+    private static void checkWords() throws IOException {
+        String source = Files.readString(Path.of("src/main/java/HedgeTreaties.java"));
+        for (String line : Document.face()) {
+            String start = line.contains("(") ? line.replace(";", " {") : line;
+            CHECKS.due("the line " + line, source.contains("\n    " + start + "\n") ? 1 : 0, 1);
+        }
     }
 
     private static void checkClass() {
